@@ -489,9 +489,9 @@ public final class CellNeighbours {
             System.arraycopy(other.inCell, 0, inCell, 0, MOST_CELLS);
         }
 
-        /** Whether the same LIE is due to both: the MONTH does not matter to it. */
+        /** Whether the same LIE is due to both: it hangs on the MEN alone. */
         boolean liesLike(Scene other) {
-            if (cells != other.cells || men != other.men) {
+            if (men != other.men) {
                 return false;
             }
             for (int m = 0; m < men; m++) {
