@@ -746,28 +746,30 @@ public final class CellNeighbours {
                 place++;
             }
             tokenPlace = place;
-            if (place >= length) {
-                token = END;
-            } else if (isDigit(letters[place])) {
-                readNumber();
-            } else {
-                int letter = letters[place];
-                boolean isKnown = letter == 'n' || letter == 'm' || letter == 'l' || letter == ';';
-                token = isKnown ? letter : STRANGE;
-                place++;
-            }
-        }
-
-        private void readNumber() {
             number = 0;
             while (place < length && isDigit(letters[place])) {
                 // A third digit is refused below, so what a long row comes to does not matter.
                 number = number * 10 + letters[place] - '0';
                 place++;
             }
+            if (place > tokenPlace) {
+                token = isPlainNumber() ? NUMBER : STRANGE;
+            } else if (place < length) {
+                token = isKnownLetter(letters[place]) ? letters[place] : STRANGE;
+                place++;
+            } else {
+                token = END;
+            }
+        }
+
+        /** 99 at most, and no 0 ahead of others. */
+        private boolean isPlainNumber() {
             int digits = place - tokenPlace;
-            boolean isPlain = digits == 1 || digits == 2 && letters[tokenPlace] != '0';
-            token = isPlain ? NUMBER : STRANGE;
+            return digits == 1 || digits == 2 && letters[tokenPlace] != '0';
+        }
+
+        private static boolean isKnownLetter(int letter) {
+            return letter == 'n' || letter == 'm' || letter == 'l' || letter == ';';
         }
 
         private static boolean isDigit(int letter) {
