@@ -1,18 +1,54 @@
+import java.util.List;
 import java.util.Locale;
 
 /** What the tests share: answers held against those that are due, and gaols told by a text. */
 final class Due {
     private static int asked = 0;
     private static int wrong = 0;
+    private static Document document = null;
+    private static String sentence = "";
+    private static int sentences = 0;
+    private static int askedBefore = 0;
 
     private Due() {
+    }
+
+    /** A test of its own begins: of words that stand in the document under that heading ("## .."). */
+    static void says(String heading, String quotation) {
+        endSentence();
+        if (document == null) {
+            document = new Document();
+        }
+        sentences++;
+        sentence = heading + " \"" + quotation + "\": ";
+        if (!document.quotes(heading, quotation)) {
+            wrong++;
+            System.out.println(sentence + "the document does not say so");
+        }
+        askedBefore = asked;
+    }
+
+    private static void endSentence() {
+        if (sentences > 0 && asked == askedBefore) {
+            wrong++;
+            System.out.println(sentence + "nothing is asked");
+        }
+    }
+
+    /** No words by which the document names a boundary may be without a test. */
+    static void allIsQuoted() {
+        List<String> missing = document.unquoted();
+        for (String words : missing) {
+            System.out.println("no test quotes: .." + words + "..");
+        }
+        wrong += missing.size();
     }
 
     static void due(String call, long got, long want) {
         asked++;
         if (got != want) {
             wrong++;
-            System.out.println(call + " answered " + got + ", due is " + want);
+            System.out.println(sentence + call + " answered " + got + ", due is " + want);
         }
     }
 
@@ -20,7 +56,7 @@ final class Due {
         asked++;
         if (!isSo) {
             wrong++;
-            System.out.println(what + " does not hold");
+            System.out.println(sentence + what + " does not hold");
         }
     }
 
@@ -62,7 +98,9 @@ final class Due {
     }
 
     static void end(String test) {
-        System.out.println(String.format(Locale.ROOT, "%s: %d answers, %d wrong", test, asked, wrong));
+        endSentence();
+        String of = sentences > 0 ? sentences + " sentences, " : "";
+        System.out.println(String.format(Locale.ROOT, "%s: %s%d answers, %d wrong", test, of, asked, wrong));
         if (wrong != 0 || asked == 0) {
             System.exit(1);
         }
