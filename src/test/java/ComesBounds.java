@@ -28,8 +28,10 @@ final class ComesBounds {
         brings();
         bringsNo();
         putsOn();
-        refusedByBoth();
+        putsOnBad();
         putsOnState();
+        carry();
+        carryBad();
         carryState();
         lies();
         liesBad();
@@ -126,7 +128,7 @@ final class ComesBounds {
     private static void lowestSound() {
         Due.says(TERMS, "he is FREE soonest, of several the lowest: which; in how many MONTHS");
         Due.due("putsOn(0, 0), alone", Due.told("m0 4 0 9;").putsOn(0, 0), 0);
-        // HARD 2 puts -1 to the song and to the tapping; HARD 0 to the tapping and to the crying.
+        // HARD 2 puts -1 to the song and to the tapping.
         Due.due("putsOn(0, 0), 2 as 3", Due.told("m0 3 0 9;m1 0 2 60;").putsOn(0, 0), 2);
         // In 1 month by 2, 3 and 4; by 0 and 1 not.
         CellNeighbours soon = Due.told("m0 4 0 2;m1 0 0 60;");
@@ -194,26 +196,19 @@ final class ComesBounds {
         Due.due("carry(0, 1), 61", over.carry(0, 1), NONE);
     }
 
-    private static void liesAre(CellNeighbours x, int years, int... cells) {
-        Due.due("now(3)", x.now(3), years);
-        for (int m = 0; m < cells.length; m++) {
-            Due.due("lies(" + m + ")", x.lies(m), cells[m]);
-        }
-    }
-
     private static void theFirstWay() {
         Due.says(TERMS, "of several the first (by the lowest of the MEN, his CELL, then the next ..)");
-        liesAre(Due.told("n9;m8 0 0 9;m7 0 0 9;m5 0 0 9;m4 0 0 9;m2 0 0 9;m0 0 0 9;"), 48, 0, 2, 4, 5, 7, 8);
+        Due.liesAre(Due.told("n9;m8 0 0 9;m7 0 0 9;m5 0 0 9;m4 0 0 9;m2 0 0 9;m0 0 0 9;"), 48, 0, 2, 4, 5, 7, 8);
         // The snorer must lie apart, in 5; the others are alike, the lower of them has 0.
-        liesAre(Due.told("m5 0 3 9;m1 0 3 9;m0 1 0 9;"), 24, 0, 1, 5);
+        Due.liesAre(Due.told("m5 0 3 9;m1 0 3 9;m0 1 0 9;"), 24, 0, 1, 5);
         // The first of the MEN has 0 before the last of them may have less.
-        liesAre(Due.told("n2;m1 0 0 9;m0 0 0 1;"), 8, 0, 1);
+        Due.liesAre(Due.told("n2;m1 0 0 9;m0 0 0 1;"), 8, 0, 1);
         // His CELL is the same in both ways, so the next one's is looked at.
-        liesAre(Due.told("m0 2 0 1;m1 0 0 9;m3 2 0 9;"), 0 + 8 + 5, 0, 3, 1);
+        Due.liesAre(Due.told("m0 2 0 1;m1 0 0 9;m3 2 0 9;"), 0 + 8 + 5, 0, 3, 1);
         // YEARS that come to 0 fall no lower, so the soft one is worth more to the second singer.
-        liesAre(Due.told("m0 2 3 1;m1 2 3 20;m5 0 0 9;"), 0 + 16 + 8, 5, 0, 1);
-        liesAre(Due.told("m3 0 0 60;"), 59, 3);
-        liesAre(new CellNeighbours(), 0);
+        Due.liesAre(Due.told("m0 2 3 1;m1 2 3 20;m5 0 0 9;"), 0 + 16 + 8, 5, 0, 1);
+        Due.liesAre(Due.told("m3 0 0 60;"), 59, 3);
+        Due.liesAre(new CellNeighbours(), 0);
     }
 
     private static void whoIsNotIn() {
@@ -221,12 +216,12 @@ final class ComesBounds {
         CellNeighbours x = Due.told("m0 0 0 9;m1 0 0 1;m2 0 0 9;");
         x.month();
         // The cells of those who are IN alone, though cell 1 is empty now.
-        liesAre(x, 14, 0, NONE, 2);
+        Due.liesAre(x, 14, 0, NONE, 2);
         x.moves(0, 5);
-        liesAre(x, 14, 2, NONE, 5);
+        Due.liesAre(x, 14, 2, NONE, 5);
         CellNeighbours all = Due.told("m0 0 0 1;");
         all.month();
-        liesAre(all, 0, NONE);
+        Due.liesAre(all, 0, NONE);
     }
 
     private static void loudCells() {
@@ -255,31 +250,25 @@ final class ComesBounds {
         Due.due("word(0, 2), moved", x.word(0, 2), 1);
     }
 
-    private static void odds(CellNeighbours x, int m, int tenths, int n, int upper, int lower) {
-        String call = "odds(" + m + ", " + tenths + ", " + n + ", ";
-        Due.due(call + "0)", x.odds(m, tenths, n, 0), upper);
-        Due.due(call + "1)", x.odds(m, tenths, n, 1), lower);
-    }
-
     private static void oddsOfTenths() {
         Due.says(TERMS, "ODDS for one by x (0 .. 10), n (0 .. 6)");
         // Silent he is FREE in a month; snoring beside HARD 0 he has as much as he had.
         CellNeighbours x = Due.told("m0 0 0 1;m1 0 0 60;");
-        odds(x, 0, 0, 0, 0, 1);
-        odds(x, 0, 10, 0, 0, 1);
-        odds(x, 0, 0, 1, 1, 1);
-        odds(x, 0, 10, 1, 0, 1);
-        odds(x, 0, 1, 1, 9, 10);
-        odds(x, 0, 9, 1, 1, 10);
-        odds(x, 0, 0, 6, 1, 1);
-        odds(x, 0, 10, 6, 0, 1);
-        odds(x, 0, 1, 6, 999999, 1000000);
-        odds(x, 0, 9, 6, 1000000 - 531441, 1000000);
+        Due.oddsAre(x, 0, 0, 0, 0, 1);
+        Due.oddsAre(x, 0, 10, 0, 0, 1);
+        Due.oddsAre(x, 0, 0, 1, 1, 1);
+        Due.oddsAre(x, 0, 10, 1, 0, 1);
+        Due.oddsAre(x, 0, 1, 1, 9, 10);
+        Due.oddsAre(x, 0, 9, 1, 1, 10);
+        Due.oddsAre(x, 0, 0, 6, 1, 1);
+        Due.oddsAre(x, 0, 10, 6, 0, 1);
+        Due.oddsAre(x, 0, 1, 6, 999999, 1000000);
+        Due.oddsAre(x, 0, 9, 6, 1000000 - 531441, 1000000);
         CellNeighbours six = Due.told("m0 0 0 6;m1 0 0 60;");
-        odds(six, 0, 0, 5, 0, 1);
-        odds(six, 0, 0, 6, 1, 1);
-        odds(six, 0, 9, 6, 1, 1000000);
-        odds(six, 0, 5, 6, 1, 64);
+        Due.oddsAre(six, 0, 0, 5, 0, 1);
+        Due.oddsAre(six, 0, 0, 6, 1, 1);
+        Due.oddsAre(six, 0, 9, 6, 1, 1000000);
+        Due.oddsAre(six, 0, 5, 6, 1, 64);
     }
 
     // ---- promises 12 to 17
@@ -306,15 +295,9 @@ final class ComesBounds {
         CellNeighbours x = Due.told("m0 1 0 9;m1 0 0 60;");
         Due.due("putsOn(0, 0)", x.putsOn(0, 0), 2);
         Due.due("putsOn(0, 1)", x.putsOn(0, 1), 3);
-        Due.says("## Promise 14:", "CARRY: which (what = 0), in how many MONTHS (1); NONE.");
-        Due.due("carry(0, 0)", x.carry(0, 0), 3);
-        Due.due("carry(0, 1)", x.carry(0, 1), 9);
-        CellNeighbours none = Due.told("n2;m0 1 0 9;m1 0 3 60;");
-        Due.due("carry(0, 0), none", none.carry(0, 0), NONE);
-        Due.due("carry(0, 1), none", none.carry(0, 1), NONE);
     }
 
-    private static void refusedByBoth() {
+    private static void putsOnBad() {
         Due.says("## Promise 13:", "BAD");
         for (int m : NO_MEN) {
             Twins.changesNothing("putsOn(" + m + ", 0)", Twins::rich, x -> x.putsOn(m, 0), BAD);
@@ -323,6 +306,25 @@ final class ComesBounds {
         for (int what : NEITHER) {
             Twins.changesNothing("putsOn(0, " + what + ")", Twins::rich, x -> x.putsOn(0, what), BAD);
         }
+    }
+
+    private static void putsOnState() {
+        Due.says("## Promise 13:", "STATE: he is FREE.");
+        Twins.changesNothing("putsOn(free, 0)", Twins::rich, x -> x.putsOn(Twins.FREED, 0), STATE);
+        Twins.changesNothing("putsOn(free, 1)", Twins::rich, x -> x.putsOn(Twins.FREED, 1), STATE);
+    }
+
+    private static void carry() {
+        Due.says("## Promise 14:", "CARRY: which (what = 0), in how many MONTHS (1); NONE.");
+        CellNeighbours x = Due.told("m0 1 0 9;m1 0 0 60;");
+        Due.due("carry(0, 0)", x.carry(0, 0), 3);
+        Due.due("carry(0, 1)", x.carry(0, 1), 9);
+        CellNeighbours none = Due.told("n2;m0 1 0 9;m1 0 3 60;");
+        Due.due("carry(0, 0), none", none.carry(0, 0), NONE);
+        Due.due("carry(0, 1), none", none.carry(0, 1), NONE);
+    }
+
+    private static void carryBad() {
         Due.says("## Promise 14:", "BAD");
         for (int m : NO_MEN) {
             Twins.changesNothing("carry(" + m + ", 0)", Twins::rich, x -> x.carry(m, 0), BAD);
@@ -331,12 +333,6 @@ final class ComesBounds {
         for (int what : NEITHER) {
             Twins.changesNothing("carry(0, " + what + ")", Twins::rich, x -> x.carry(0, what), BAD);
         }
-    }
-
-    private static void putsOnState() {
-        Due.says("## Promise 13:", "STATE: he is FREE.");
-        Twins.changesNothing("putsOn(free, 0)", Twins::rich, x -> x.putsOn(Twins.FREED, 0), STATE);
-        Twins.changesNothing("putsOn(free, 1)", Twins::rich, x -> x.putsOn(Twins.FREED, 1), STATE);
     }
 
     private static void carryState() {
@@ -390,17 +386,17 @@ final class ComesBounds {
     private static void odds() {
         Due.says("## Promise 17:", "ODDS: upper (what = 0), lower number (1), in least terms.");
         CellNeighbours x = Due.told("m0 0 0 2;m1 0 0 60;");
-        odds(x, 0, 5, 2, 1, 4);
-        odds(x, 0, 5, 3, 1, 2);
-        odds(x, 0, 4, 2, 9, 25);
-        odds(x, 0, 3, 2, 49, 100);
-        odds(x, 0, 5, 1, 0, 1);
+        Due.oddsAre(x, 0, 5, 2, 1, 4);
+        Due.oddsAre(x, 0, 5, 3, 1, 2);
+        Due.oddsAre(x, 0, 4, 2, 9, 25);
+        Due.oddsAre(x, 0, 3, 2, 49, 100);
+        Due.oddsAre(x, 0, 5, 1, 0, 1);
         // Once FREE he stays so, and who is FREE is so for certain, of no month too.
         CellNeighbours once = Due.told("m0 0 0 1;m1 0 0 60;");
-        odds(once, 0, 5, 6, 63, 64);
+        Due.oddsAre(once, 0, 5, 6, 63, 64);
         once.month();
-        odds(once, 0, 5, 6, 1, 1);
-        odds(once, 0, 10, 0, 1, 1);
+        Due.oddsAre(once, 0, 5, 6, 1, 1);
+        Due.oddsAre(once, 0, 10, 0, 1, 1);
     }
 
     private static void oddsBad() {

@@ -84,34 +84,27 @@ public final class ComesTest {
         Due.due("carry(0, 2), free", free.carry(0, 2), CellNeighbours.BAD);
     }
 
-    private static void liesAre(CellNeighbours x, int years, int... cells) {
-        Due.due("now(3)", x.now(3), years);
-        for (int m = 0; m < cells.length; m++) {
-            Due.due("lies(" + m + ")", x.lies(m), cells[m]);
-        }
-    }
-
     private static void lies() {
         // All alike: the first way, by the lowest man's cell, whatever it is now.
-        liesAre(Due.told("m5 0 0 9;m3 0 0 9;m0 0 0 9;"), 24, 0, 3, 5);
+        Due.liesAre(Due.told("m5 0 0 9;m3 0 0 9;m0 0 0 9;"), 24, 0, 3, 5);
         // The snorer should have the cell that is apart.
-        liesAre(Due.told("m0 0 3 9;m1 1 3 9;m5 0 3 9;"), 24, 0, 5, 1);
+        Due.liesAre(Due.told("m0 0 3 9;m1 1 3 9;m5 0 3 9;"), 24, 0, 5, 1);
         // The singer should lie beside the soft one: cells 0 and 1; the lowest man first.
-        liesAre(Due.told("m0 0 3 9;m1 2 3 9;m5 0 0 9;"), 21, 5, 0, 1);
+        Due.liesAre(Due.told("m0 0 3 9;m1 2 3 9;m5 0 0 9;"), 21, 5, 0, 1);
         CellNeighbours x = Due.told("m0 0 3 1;m1 1 3 9;m5 0 3 9;");
         Due.due("lies(3)", x.lies(3), CellNeighbours.BAD);
         Due.due("lies(-1)", x.lies(-1), CellNeighbours.BAD);
         x.month();
         // He in 1 has 12 by now; those IN have the cells 1 and 5 alone.
-        liesAre(x, 11 + 7, CellNeighbours.NONE, 1, 5);
+        Due.liesAre(x, 11 + 7, CellNeighbours.NONE, 1, 5);
         x.undo();
-        liesAre(x, 0 + 8 + 8, 0, 5, 1);
+        Due.liesAre(x, 0 + 8 + 8, 0, 5, 1);
         x.feigns(1, 0);
-        liesAre(x, 0 + 8 + 8, 0, 1, 5);
+        Due.liesAre(x, 0 + 8 + 8, 0, 1, 5);
         x.undo();
         x.moves(0, 4);
-        liesAre(x, 0 + 8 + 8, 4, 1, 5);
-        liesAre(new CellNeighbours(), 0);
+        Due.liesAre(x, 0 + 8 + 8, 4, 1, 5);
+        Due.liesAre(new CellNeighbours(), 0);
     }
 
     /** Each answer is of its own NOW, whatever was asked before it. */
@@ -164,46 +157,35 @@ public final class ComesTest {
         Due.due("word(5, 0), five", row.word(5, 0), 5);
     }
 
-    private static void odds(CellNeighbours x, int m, int tenths, int n, int upper, int lower) {
-        String call = "odds(" + m + ", " + tenths + ", " + n + ", ";
-        Due.due(call + "0)", x.odds(m, tenths, n, 0), upper);
-        Due.due(call + "1)", x.odds(m, tenths, n, 1), lower);
-    }
-
     private static void odds() {
         // Silent he has 1 less a month, snoring beside HARD 0 as much as he had.
         CellNeighbours x = Due.told("n3;m0 0 0 2;m1 0 0 60;");
-        odds(x, 0, 0, 0, 0, 1);
-        odds(x, 0, 10, 0, 0, 1);
-        odds(x, 0, 0, 1, 0, 1);
-        odds(x, 0, 0, 2, 1, 1);
-        odds(x, 0, 10, 6, 0, 1);
-        odds(x, 0, 5, 2, 1, 4);
-        odds(x, 0, 3, 2, 49, 100);
-        odds(x, 0, 5, 3, 1, 2);
-        odds(x, 0, 1, 3, 972, 1000, 4);
-        odds(x, 0, 9, 6, 114265, 1000000, 5);
-        odds(x, 1, 7, 6, 0, 1);
+        Due.oddsAre(x, 0, 0, 0, 0, 1);
+        Due.oddsAre(x, 0, 10, 0, 0, 1);
+        Due.oddsAre(x, 0, 0, 1, 0, 1);
+        Due.oddsAre(x, 0, 0, 2, 1, 1);
+        Due.oddsAre(x, 0, 10, 6, 0, 1);
+        Due.oddsAre(x, 0, 5, 2, 1, 4);
+        Due.oddsAre(x, 0, 3, 2, 49, 100);
+        Due.oddsAre(x, 0, 5, 3, 1, 2);
+        Due.oddsAre(x, 0, 1, 3, 972 / 4, 1000 / 4);
+        Due.oddsAre(x, 0, 9, 6, 114265 / 5, 1000000 / 5);
+        Due.oddsAre(x, 1, 7, 6, 0, 1);
         // One who snores anyhow.
         CellNeighbours y = Due.told("n3;m0 1 0 2;m2 0 0 60;");
-        odds(y, 0, 4, 2, 1, 1);
-        odds(y, 0, 4, 1, 0, 1);
+        Due.oddsAre(y, 0, 4, 2, 1, 1);
+        Due.oddsAre(y, 0, 4, 1, 0, 1);
         // Once he is free he stays free; and one who is free is so by any x and n.
         CellNeighbours z = Due.told("n3;m0 0 0 1;m1 0 0 60;");
-        odds(z, 0, 5, 1, 1, 2);
-        odds(z, 0, 5, 6, 63, 64);
-        odds(z, 0, 9, 6, 468559, 1000000);
+        Due.oddsAre(z, 0, 5, 1, 1, 2);
+        Due.oddsAre(z, 0, 5, 6, 63, 64);
+        Due.oddsAre(z, 0, 9, 6, 468559, 1000000);
         z.month();
-        odds(z, 0, 5, 6, 1, 1);
-        odds(z, 0, 5, 0, 1, 1);
+        Due.oddsAre(z, 0, 5, 6, 1, 1);
+        Due.oddsAre(z, 0, 5, 0, 1, 1);
         // His neighbour goes free behind the first month: then snoring costs nothing.
         CellNeighbours w = Due.told("n3;m0 0 0 2;m1 0 3 1;");
-        odds(w, 0, 5, 2, 1, 2);
-    }
-
-    /** A fraction told with what shortens it. */
-    private static void odds(CellNeighbours x, int m, int tenths, int n, int upper, int lower, int by) {
-        odds(x, m, tenths, n, upper / by, lower / by);
+        Due.oddsAre(w, 0, 5, 2, 1, 2);
     }
 
     private static void badOdds() {

@@ -80,6 +80,20 @@ final class Due {
         return x;
     }
 
+    /** LIE: its YEARS, then the CELLS of the MEN. */
+    static void liesAre(CellNeighbours x, int years, int... cells) {
+        due("now(3)", x.now(3), years);
+        for (int m = 0; m < cells.length; m++) {
+            due("lies(" + m + ")", x.lies(m), cells[m]);
+        }
+    }
+
+    static void oddsAre(CellNeighbours x, int m, int tenths, int n, int upper, int lower) {
+        String call = "odds(" + m + ", " + tenths + ", " + n + ", ";
+        due(call + "0)", x.odds(m, tenths, n, 0), upper);
+        due(call + "1)", x.odds(m, tenths, n, 1), lower);
+    }
+
     /** All that is NOW and can be asked without a change, as one text. */
     static String all(CellNeighbours x) {
         StringBuilder all = new StringBuilder();

@@ -357,7 +357,8 @@ final class TextBounds {
         Due.says("## Promise 4:", "-10 less FAULT: nothing changes (THE TEXT stays, too).");
         // Each is a fault behind ITEMS that would change much.
         String head = "n9;l3;m8 4 3 60;";
-        for (String tail : new String[] {"m", "n3;", "l1;", "m8 0 0 1;", "m9 0 0 1;", "m0 0 0 0;", "?", ";", "m0 0 0 100;"}) {
+        String[] tails = {"m", "n3;", "l1;", "m8 0 0 1;", "m9 0 0 1;", "m0 0 0 0;", "?", ";", "m0 0 0 100;"};
+        for (String tail : tails) {
             CellNeighbours x = told(head + tail);
             int fault = x.gaol();
             Due.holds("gaol() of '" + head + tail + "' is at fault behind its head", fault <= -10 - head.length());
